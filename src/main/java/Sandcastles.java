@@ -22,6 +22,7 @@ public final class Sandcastles {
         "strikes 9 + moon - place - shelter ; raises 5 ; worth 10 ;";
 
     private final Tape tape = new Tape();
+    private final Reader reader = new Reader(tape);
     private final Text[] texts = new Text[TEXTS];
     private int textCount;
     private final Strand strand;
@@ -42,7 +43,7 @@ public final class Sandcastles {
         for (int i = 0; i < TEXT_0.length(); i++) {
             tape.add(TEXT_0.charAt(i));
         }
-        tape.readInto(texts[0]);
+        reader.readInto(texts[0]);
         tape.clear();
         textCount = 1;
         strand = new Strand(texts[0]);
@@ -141,7 +142,7 @@ public final class Sandcastles {
         if (textCount < 0 || textCount >= TEXTS) {
             return FULL;
         }
-        int fault = tape.readInto(texts[textCount]);
+        int fault = reader.readInto(texts[textCount]);
         tape.clear();
         if (fault != NONE) {
             return FAULTY - fault;
@@ -597,10 +598,6 @@ public final class Sandcastles {
             return height > 0;
         }
 
-        boolean isShelter() {
-            return height > 0 && kind != HOLE;
-        }
-
         boolean isUnder(int k) {
             return k == 0 || k == kind || k == WALL && kind == TOWER || k == HOLE && kind == TRENCH;
         }
@@ -676,17 +673,18 @@ public final class Sandcastles {
         }
 
         int losesOf(Fort f) {
-            return f.lossBy(rule.strikes.tell(this, f), wave);
+            return f.lossBy(rule.strikeOn(this, f), wave);
         }
 
         int risesOf(Fort f) {
-            return f.riseBy(rule.raises.tell(this, f));
+            return f.riseBy(rule.raiseOf(this, f));
         }
 
         int shelterOf(Fort f) {
             int many = 0;
             for (int i = 0; i < size && i < FORTS; i++) {
-                if (forts[i].place < f.place && forts[i].isShelter()) {
+                Fort other = forts[i];
+                if (other.place < f.place && other.height > 0 && other.kind != HOLE) {
                     many++;
                 }
             }
@@ -696,7 +694,7 @@ public final class Sandcastles {
         void beat() {
             for (int i = 0; i < size && i < FORTS; i++) {
                 Fort f = forts[i];
-                f.loss = f.stands() ? losesOf(f) : 0;
+                f.loss = f.stands() ? f.lossBy(rule.strikeOn(this, f), wave) : 0;
             }
             for (int i = 0; i < size && i < FORTS; i++) {
                 Fort f = forts[i];
@@ -746,7 +744,7 @@ public final class Sandcastles {
             for (int i = 0; i < size && i < FORTS; i++) {
                 Fort f = forts[i];
                 if (f.stands()) {
-                    int worth = rule.worth.tell(this, f);
+                    int worth = rule.worthOf(this, f);
                     sum += f.realm == realm ? worth : -worth;
                 }
             }
@@ -827,33 +825,25 @@ public final class Sandcastles {
         }
     }
 
-    /** A text that was read: how hard a wave strikes, how much a spade raises, what a fort is worth. */
+    /** A text that was read: its three E, operands ahead of their sign, so that no tree is walked. */
     private static final class Text {
-        private final int id;
-        private final Formula strikes = new Formula(99);
-        private final Formula raises = new Formula(20);
-        private final Formula worth = new Formula(99);
-
-        Text(int id) {
-            this.id = id;
-        }
-    }
-
-    /** One E of a text, its operands ahead of their sign, so that no tree need be walked. */
-    private static final class Formula {
         private static final int WAVE = -1, MOON = -2, PLACE = -3, NUMBER = -4, HEIGHT = -5;
         private static final int SHELTER = -6, NOT = -7, MINUS = -8, OR = -9, AND = -10;
         private static final int LESS = -11, LIKE = -12, PLUS = -13, FEWER = -14, TIMES = -15;
+        // Five operands may wait ahead of each of the five ( that may be open, and five behind them.
+        private static final int WAITING = 40;
 
-        private final int highest;
+        private final int id;
         // A number from 0 on stands for itself, one below 0 is a name or a sign.
         private final int[] codes = new int[TAPE];
         private int size;
-        private final int[] stack = new int[TAPE];
+        private int raisesFrom;
+        private int worthFrom;
+        private final int[] stack = new int[WAITING];
         private int depth;
 
-        Formula(int highest) {
-            this.highest = highest;
+        Text(int id) {
+            this.id = id;
         }
 
         void clear() {
@@ -867,9 +857,30 @@ public final class Sandcastles {
             }
         }
 
-        int tell(Strand s, Fort f) {
+        void startRaises() {
+            raisesFrom = size;
+        }
+
+        void startWorth() {
+            worthFrom = size;
+        }
+
+        int strikeOn(Strand s, Fort f) {
+            return Math.min(99, tell(0, raisesFrom, s, f));
+        }
+
+        int raiseOf(Strand s, Fort f) {
+            return Math.min(20, tell(raisesFrom, worthFrom, s, f));
+        }
+
+        int worthOf(Strand s, Fort f) {
+            return Math.min(99, tell(worthFrom, size, s, f));
+        }
+
+        /** What an E tells, 0 at least. */
+        private int tell(int from, int to, Strand s, Fort f) {
             depth = 0;
-            for (int i = 0; i < size && i < TAPE; i++) {
+            for (int i = from; i >= 0 && i < to && i < TAPE; i++) {
                 int code = codes[i];
                 if (code >= 0) {
                     push(code);
@@ -883,18 +894,18 @@ public final class Sandcastles {
                     push(joined(code, pop(), right));
                 }
             }
-            return Math.max(0, Math.min(highest, pop()));
+            return Math.max(0, pop());
         }
 
         private void push(int v) {
-            if (depth >= 0 && depth < TAPE) {
+            if (depth >= 0 && depth < WAITING) {
                 stack[depth] = v;
                 depth++;
             }
         }
 
         private int pop() {
-            if (depth < 1 || depth > TAPE) {
+            if (depth < 1 || depth > WAITING) {
                 return 0;
             }
             depth--;
@@ -929,21 +940,19 @@ public final class Sandcastles {
         }
     }
 
-    /** THE TAPE, and how a text is read from it. */
+    /** THE TAPE, and the tokens that it is cut into. */
     private static final class Tape {
-        // Tokens: a sign is its byte, a name or one of or, and, not its code of a Formula.
-        private static final int END = 1, WRONG = 2, DIGITS = 3, STRIKES = 4, RAISES = 5, WORTH = 6;
-        private static final int MOST_OPEN = 5, MOST_DIGITS = 4;
+        private static final int END = 1, WRONG = 2, STRIKES = 3, RAISES = 4, WORTH = 5;
+        // A number's token is so much more; a sign's is its byte; a name's, as that of or, and,
+        // not, is its code in a Text.
+        private static final int NUMBERS_FROM = 1000;
+        private static final int MOST_DIGITS = 4;
+        private static final int BLANK = 0, DIGIT = 1, LETTER = 2, SIGN = 3, OTHER = 4;
 
         private final int[] bytes = new int[TAPE];
         private int size;
-        private int at;
-        private int token;
-        private int start;
-        private int number;
-        private int open;
-        private int fault;
-        private Formula out;
+        private final int[] tokens = new int[TAPE + 1];
+        private final int[] starts = new int[TAPE + 1];
 
         boolean add(int letter) {
             if (size < 0 || size >= TAPE) {
@@ -958,199 +967,76 @@ public final class Sandcastles {
             size = 0;
         }
 
-        /** NONE, or the place of the FAULT. */
-        int readInto(Text t) {
-            at = 0;
-            open = 0;
-            fault = NONE;
-            next();
-            readPart(STRIKES, t.strikes);
-            readPart(RAISES, t.raises);
-            readPart(WORTH, t.worth);
-            expect(END);
-            return fault;
-        }
-
-        private void readPart(int key, Formula f) {
-            out = f;
-            f.clear();
-            expect(key);
-            readE();
-            expect(';');
-        }
-
-        private void readE() {
-            readAnd();
-            for (int k = 0; k < TAPE && token == Formula.OR; k++) {
-                next();
-                readAnd();
-                put(Formula.OR);
-            }
-        }
-
-        private void readAnd() {
-            readNot();
-            for (int k = 0; k < TAPE && token == Formula.AND; k++) {
-                next();
-                readNot();
-                put(Formula.AND);
-            }
-        }
-
-        private void readNot() {
-            int nots = openAll(Formula.NOT);
-            readSum();
-            if (token == '<' || token == '=') {
-                int sign = token == '<' ? Formula.LESS : Formula.LIKE;
-                next();
-                readSum();
-                put(sign);
-            }
-            closeAll(nots, Formula.NOT);
-        }
-
-        private void readSum() {
-            readTerm();
-            for (int k = 0; k < TAPE && (token == '+' || token == '-'); k++) {
-                int sign = token == '+' ? Formula.PLUS : Formula.FEWER;
-                next();
-                readTerm();
-                put(sign);
-            }
-        }
-
-        private void readTerm() {
-            readOne();
-            for (int k = 0; k < TAPE && token == '*'; k++) {
-                next();
-                readOne();
-                put(Formula.TIMES);
-            }
-        }
-
-        private void readOne() {
-            int minuses = openAll('-');
-            if (token == DIGITS) {
-                put(number);
-                next();
-            } else if (token <= Formula.WAVE && token >= Formula.SHELTER) {
-                put(token);
-                next();
-            } else if (token == '(' && open < MOST_OPEN) {
-                open++;
-                next();
-                readE();
-                expect(')');
-                open--;
-            } else {
-                fail();
-            }
-            closeAll(minuses, Formula.MINUS);
-        }
-
-        /** How many of a sign stand here one behind the other; each is open until closeAll(). */
-        private int openAll(int sign) {
-            int many = 0;
-            for (int k = 0; k < TAPE && token == sign; k++) {
-                if (open < MOST_OPEN) {
-                    open++;
-                    many++;
-                    next();
-                } else {
-                    fail();
+        /** The last token is END, or else the first WRONG one: nothing behind that can matter. */
+        void cut() {
+            int token = 0;
+            int at = 0;
+            for (int k = 0; k <= TAPE && token != END && token != WRONG; k++) {
+                int from = behind(at, BLANK);
+                switch (sortAt(from)) {
+                    case DIGIT:
+                        at = behind(from, DIGIT);
+                        token = numberToken(from, at);
+                        break;
+                    case LETTER:
+                        at = behind(from, LETTER);
+                        token = wordToken(from, at);
+                        break;
+                    case SIGN:
+                        at = from + 1;
+                        token = byteAt(from);
+                        break;
+                    default:
+                        token = from < size ? WRONG : END;
+                        break;
                 }
-            }
-            return many;
-        }
-
-        private void closeAll(int many, int code) {
-            open -= many;
-            for (int k = 0; k < many; k++) {
-                put(code);
+                tokens[k] = token;
+                starts[k] = from;
             }
         }
 
-        private void put(int code) {
-            if (out != null) {
-                out.add(code);
+        /** The first place, from one on, where no byte of a sort is. */
+        private int behind(int from, int sort) {
+            int i = from;
+            while (i < size && sortAt(i) == sort) {
+                i++;
             }
+            return i;
         }
 
-        private void expect(int wanted) {
-            if (token == wanted) {
-                next();
-            } else {
-                fail();
+        private int numberToken(int from, int to) {
+            if (to - from > MOST_DIGITS) {
+                return WRONG;
             }
+            int number = 0;
+            for (int i = from; i < to; i++) {
+                number = number * 10 + byteAt(i) - '0';
+            }
+            return NUMBERS_FROM + number;
         }
 
-        /** From the first fault on the token is WRONG, which fits nowhere: so all reading ends. */
-        private void fail() {
-            if (fault == NONE) {
-                fault = start;
-            }
-            token = WRONG;
-        }
-
-        private void next() {
-            if (fault != NONE) {
-                return;
-            }
-            while (at < size && (byteAt(at) == ' ' || byteAt(at) == '\n')) {
-                at++;
-            }
-            start = at;
-            int b = byteAt(at);
-            if (b < 0) {
-                token = END;
-            } else if (isDigit(b)) {
-                readNumber();
-            } else if (isLetter(b)) {
-                readWord();
-            } else {
-                at++;
-                token = isSign(b) ? b : WRONG;
-            }
-        }
-
-        private void readNumber() {
-            number = 0;
-            while (at < size && isDigit(byteAt(at))) {
-                number = number * 10 + byteAt(at) - '0';
-                at++;
-            }
-            token = at - start > MOST_DIGITS ? WRONG : DIGITS;
-        }
-
-        private void readWord() {
-            while (at < size && isLetter(byteAt(at))) {
-                at++;
-            }
-            token = wordToken();
-        }
-
-        private int wordToken() {
-            if (isWord("strikes")) return STRIKES;
-            if (isWord("raises")) return RAISES;
-            if (isWord("worth")) return WORTH;
-            if (isWord("or")) return Formula.OR;
-            if (isWord("and")) return Formula.AND;
-            if (isWord("not")) return Formula.NOT;
-            if (isWord("wave")) return Formula.WAVE;
-            if (isWord("moon")) return Formula.MOON;
-            if (isWord("place")) return Formula.PLACE;
-            if (isWord("number")) return Formula.NUMBER;
-            if (isWord("height")) return Formula.HEIGHT;
-            if (isWord("shelter")) return Formula.SHELTER;
+        private int wordToken(int from, int to) {
+            if (isWord("strikes", from, to)) return STRIKES;
+            if (isWord("raises", from, to)) return RAISES;
+            if (isWord("worth", from, to)) return WORTH;
+            if (isWord("or", from, to)) return Text.OR;
+            if (isWord("and", from, to)) return Text.AND;
+            if (isWord("not", from, to)) return Text.NOT;
+            if (isWord("wave", from, to)) return Text.WAVE;
+            if (isWord("moon", from, to)) return Text.MOON;
+            if (isWord("place", from, to)) return Text.PLACE;
+            if (isWord("number", from, to)) return Text.NUMBER;
+            if (isWord("height", from, to)) return Text.HEIGHT;
+            if (isWord("shelter", from, to)) return Text.SHELTER;
             return WRONG;
         }
 
-        private boolean isWord(String word) {
-            if (at - start != word.length()) {
+        private boolean isWord(String word, int from, int to) {
+            if (to - from != word.length()) {
                 return false;
             }
             for (int i = 0; i < word.length(); i++) {
-                if (byteAt(start + i) != word.charAt(i)) {
+                if (byteAt(from + i) != word.charAt(i)) {
                     return false;
                 }
             }
@@ -1161,16 +1047,17 @@ public final class Sandcastles {
             return i >= 0 && i < size && i < TAPE ? bytes[i] : NONE;
         }
 
-        private static boolean isDigit(int b) {
-            return b >= '0' && b <= '9';
-        }
-
-        private static boolean isLetter(int b) {
-            return b >= 'a' && b <= 'z';
-        }
-
-        private static boolean isSign(int b) {
+        private int sortAt(int i) {
+            int b = byteAt(i);
+            if (b >= '0' && b <= '9') {
+                return DIGIT;
+            }
+            if (b >= 'a' && b <= 'z') {
+                return LETTER;
+            }
             switch (b) {
+                case ' ':
+                case '\n': return BLANK;
                 case '(':
                 case ')':
                 case ';':
@@ -1178,9 +1065,162 @@ public final class Sandcastles {
                 case '-':
                 case '*':
                 case '<':
-                case '=': return true;
-                default: return false;
+                case '=': return SIGN;
+                default: return OTHER;
             }
+        }
+    }
+
+    /** Reads a text from the tokens of THE TAPE. */
+    private static final class Reader {
+        private static final int MOST_OPEN = 5;
+
+        private final Tape tape;
+        private int at;
+        private int token;
+        private int open;
+        private int fault;
+
+        Reader(Tape tape) {
+            this.tape = tape;
+        }
+
+        /** NONE, or the place of the FAULT. */
+        int readInto(Text t) {
+            tape.cut();
+            t.clear();
+            open = 0;
+            fault = NONE;
+            goTo(0);
+            readPart(Tape.STRIKES, t);
+            t.startRaises();
+            readPart(Tape.RAISES, t);
+            t.startWorth();
+            readPart(Tape.WORTH, t);
+            if (token != Tape.END) {
+                fail();
+            }
+            return fault;
+        }
+
+        private void readPart(int key, Text t) {
+            expect(key);
+            readE(t);
+            expect(';');
+        }
+
+        private void readE(Text t) {
+            readAnd(t);
+            for (int k = 0; k < TAPE && token == Text.OR; k++) {
+                goTo(at + 1);
+                readAnd(t);
+                t.add(Text.OR);
+            }
+        }
+
+        private void readAnd(Text t) {
+            readNot(t);
+            for (int k = 0; k < TAPE && token == Text.AND; k++) {
+                goTo(at + 1);
+                readNot(t);
+                t.add(Text.AND);
+            }
+        }
+
+        private void readNot(Text t) {
+            int nots = openAll(Text.NOT);
+            readSum(t);
+            if (token == '<' || token == '=') {
+                int sign = token == '<' ? Text.LESS : Text.LIKE;
+                goTo(at + 1);
+                readSum(t);
+                t.add(sign);
+            }
+            closeAll(nots, Text.NOT, t);
+        }
+
+        private void readSum(Text t) {
+            readTerm(t);
+            for (int k = 0; k < TAPE && (token == '+' || token == '-'); k++) {
+                int sign = token == '+' ? Text.PLUS : Text.FEWER;
+                goTo(at + 1);
+                readTerm(t);
+                t.add(sign);
+            }
+        }
+
+        private void readTerm(Text t) {
+            readOne(t);
+            for (int k = 0; k < TAPE && token == '*'; k++) {
+                goTo(at + 1);
+                readOne(t);
+                t.add(Text.TIMES);
+            }
+        }
+
+        private void readOne(Text t) {
+            int minuses = openAll('-');
+            if (token >= Tape.NUMBERS_FROM) {
+                t.add(token - Tape.NUMBERS_FROM);
+                goTo(at + 1);
+            } else if (token <= Text.WAVE && token >= Text.SHELTER) {
+                t.add(token);
+                goTo(at + 1);
+            } else if (token == '(' && open < MOST_OPEN) {
+                open++;
+                goTo(at + 1);
+                readE(t);
+                expect(')');
+                open--;
+            } else {
+                fail();
+            }
+            closeAll(minuses, Text.MINUS, t);
+        }
+
+        /** How many of a sign stand here one behind the other; each is open until closeAll(). */
+        private int openAll(int sign) {
+            int many = 0;
+            for (int k = 0; k < TAPE && token == sign; k++) {
+                if (open < MOST_OPEN) {
+                    open++;
+                    many++;
+                    goTo(at + 1);
+                } else {
+                    fail();
+                }
+            }
+            return many;
+        }
+
+        private void closeAll(int many, int code, Text t) {
+            open -= many;
+            for (int k = 0; k < many; k++) {
+                t.add(code);
+            }
+        }
+
+        private void expect(int wanted) {
+            if (token == wanted) {
+                goTo(at + 1);
+            } else {
+                fail();
+            }
+        }
+
+        private void goTo(int next) {
+            if (next >= 0 && next <= TAPE) {
+                at = next;
+                token = tape.tokens[at];
+            }
+        }
+
+        /** From the first fault on the token is WRONG, which fits nowhere: so all reading ends. */
+        private void fail() {
+            if (fault == NONE && at >= 0 && at <= TAPE) {
+                fault = tape.starts[at];
+            }
+            token = Tape.WRONG;
         }
     }
 
