@@ -113,6 +113,11 @@ public final class PromisesTest {
         for (int s = 0; s < 4; s++) {
             due("1 cell", x.cell(s, 0, 0), -11);
         }
+        x.fort(0, 0, 3);
+        x.set(0, 0, 4);
+        due("1 strikes by THE RULE", x.told(0, 7), 9 + 4 - 3);
+        due("1 raises by THE RULE", x.told(0, 8), 5);
+        due("1 worth by THE RULE", x.run(0, 2), 10);
     }
 
     private static void set() {
@@ -247,6 +252,8 @@ public final class PromisesTest {
         due("4 shelter at the sea", x.told(near, 9), 0);
         x.set(4, 0, 1);
         due("4 the other realm's shelter too", x.told(far, 9), 6);
+        x.set(5, 0, 1);
+        due("4 height 1 shelters", x.told(far, 9), 6);
         x.set(5, 0, 0);
         due("4 what doesn't stand shelters none", x.told(far, 9), 5);
         x.set(5, far, 0);
@@ -308,6 +315,14 @@ public final class PromisesTest {
         fault("strikes moonwave ;", 8);
         fault("strikes Moon ;", 8);
         fault("strikesmoon", 0);
+        fault("strikes moonz ;", 8);
+        fault("strikes moona ;", 8);
+        fault("strikes noon ;", 8);
+        fault("strikes ` ;", 8);
+        fault("strikes { ;", 8);
+        fault("strikes / ;", 8);
+        fault("strikes : ;", 8);
+        fault("aaaaaaa 1 ;", 0);
         fault("strikes 1 + worth ;", 12);
         fault("strikes 1 + not 2 ;", 12);
         fault("strikes 1 < 2 < 3 ;", 14);
@@ -349,6 +364,15 @@ public final class PromisesTest {
         due("6 ( ends at )", read(new Sandcastles(), "strikes ((((1)))) + (((((1)))))" + rest), 1);
         fault("strikes - ( - ( not ( 1 ) ) )" + rest, 20);
         due("6 mixed", read(new Sandcastles(), "strikes - ( - ( not 1 ) )" + rest), 1);
+        Sandcastles x = new Sandcastles();
+        for (int i = 0; i < 3; i++) {
+            due("6 a fault leaves nothing open", read(x, "strikes ((((( 1 ?"), -116);
+            due("6 a fault leaves no sum", read(x, "strikes 1+1+1+1+1+1+1+1+1+1+1+1+1+1+1+1+1+1+1+1+1+1+1+1+1+1 ?"), -160);
+        }
+        due("6 a text behind faults", read(x, "strikes (((((3)))))" + rest), 1);
+        x.force(1);
+        x.fort(0, 0, 0);
+        due("6 what it means", x.told(0, 7), 3);
     }
 
     private static void means(String e, int v) {
@@ -519,6 +543,9 @@ public final class PromisesTest {
         put(x, 0, 0, 20);
         put(x, 0, 1, 20);
         due("11 missing", x.plan(0, 0), REFUSED);
+        Sandcastles bare = new Sandcastles();
+        row(bare, 0, 0, -1, -1);
+        due("11 no forts", bare.plan(0, 2), 0);
         row(x, 0, 0, 0, -1, 1, 0);
         // fort 0: 20 + 5 - 7, - 7, - 7, + 8 - 7 = 5; fort 1: 20 - 7 - 7 + 7 - 7 - 7 = 0 at last
         due("11 height", x.plan(0, 10), 5);
@@ -571,6 +598,9 @@ public final class PromisesTest {
         put(odd, 0, 0, 30);
         due("12 the least, not the highest that fails", odd.keeps(0, 1), 1);
         due("12 in thought", odd.told(0, 5), 30);
+        Sandcastles later = by("5 + wave", "0", "0");
+        put(later, 0, 0, 1);
+        due("12 each from now", later.keeps(0, 2), 11);
     }
 
     private static void best() {
@@ -611,6 +641,11 @@ public final class PromisesTest {
         due("14 0 waves", x.matters(0, 0, 0), NONE);
         due("14 as so, now", x.matters(0, 0, 1), 60);
         due("14 in thought", x.told(2, 5), 20);
+        Sandcastles first = by("20 - 3 * shelter", "0", "0");
+        put(first, 0, 0, 60);
+        put(first, 1, 0, 60);
+        due("14 the first fort", first.matters(1, 2, 0), 0);
+        due("14 without it", first.matters(1, 2, 1), 20);
         due("14 fort 4", x.matters(4, 0, 0), BAD);
         due("14 fort -1", x.matters(-1, 0, 0), BAD);
         due("14 n 41", x.matters(0, 41, 0), BAD);
@@ -641,6 +676,18 @@ public final class PromisesTest {
         x.set(5, 1, 0);
         x.set(5, 2, 0);
         x.set(5, 3, 0);
+        Sandcastles own = by("10", "0", "50 * (shelter = 0) * place");
+        put(own, 0, 0, 20);
+        put(own, 1, 0, 20);
+        put(own, 15, 1, 20);
+        due("15 not one of its own", own.wish(0, 0, 0), NONE);
+        Sandcastles high = by("10", "0", "height");
+        put(high, 0, 0, 30);
+        put(high, 0, 1, 15);
+        put(high, 0, 1, 40);
+        due("15 behind the waves", high.wish(0, 2, 0), 2);
+        due("15 behind the waves", high.wish(0, 2, 1), 10);
+        due("15 now", high.wish(0, 0, 1), 15);
         due("15 none stands", x.wish(0, 0, 0), NONE);
         due("15 as so, now", x.wish(0, 0, 1), 3);
     }
@@ -709,6 +756,14 @@ public final class PromisesTest {
         for (int what = 0; what < 6; what++) {
             due("17 nothing told " + what, x.tells(1, 0, what), all[what]);
         }
+        x.force(2);
+        due("17 text 0 too, while another rules", x.tells(1, 0, 5), 7);
+        row(x, 2, 0, 51, 42);
+        x.set(3, 0, 0);
+        due("17 text 0, while another rules", x.tells(2, 0, 5), 1);
+        x.set(3, 0, 2);
+        x.force(0);
+        x.sheet(2, -1, 0);
         due("17 in thought", x.told(0, 5), 60);
         due("17 sheet 4", x.tells(4, 0, 0), BAD);
         due("17 sheet -1", x.tells(-1, 0, 0), BAD);
@@ -770,19 +825,21 @@ public final class PromisesTest {
     private static void chance() {
         Sandcastles x = by("9 + (4 < moon)", "0", "0");
         put(x, 0, 0, 10);
-        int stand = 0;
-        for (int seed = -7; seed < 5; seed++) {
-            stand += x.drawn(seed, 1);
+        boolean halved = false;
+        for (int n = 1; n <= 20; n++) {
+            int stand = 0;
+            for (int seed = -7; seed < n - 7; seed++) {
+                stand += x.drawn(seed, 1);
+            }
+            int shared = n;
+            while (stand % shared != 0 || n % shared != 0) {
+                shared--;
+            }
+            halved |= shared == 2 && stand > 0;
+            due("20 above, " + n, x.chance(-7, n, 1, 0), stand / shared);
+            due("20 below, " + n, x.chance(-7, n, 1, 1), n / shared);
         }
-        int a = stand, b = 12;
-        while (b != 0) {
-            int c = a % b;
-            a = b;
-            b = c;
-        }
-        due("20 some and not all", stand > 0 && stand < 12 ? 1 : 0, 1);
-        due("20 above", x.chance(-7, 12, 1, 0), stand / a);
-        due("20 below", x.chance(-7, 12, 1, 1), 12 / a);
+        due("20 once both are halved", halved ? 1 : 0, 1);
         due("20 all", x.chance(5, 20, 0, 0), 1);
         due("20 all", x.chance(5, 20, 0, 1), 1);
         due("20 none", x.chance(5, 20, 40, 0), 0);
@@ -826,6 +883,7 @@ public final class PromisesTest {
         }
         x.force(0);
         x.fort(0, 0, 0);
+        x.set(4, 2, 1);
         read(x, whole("4", "5", "6"));
         x.feed('a');
         x.sheet(0, 0, 5);
@@ -880,7 +938,11 @@ public final class PromisesTest {
         due("24 item 40", x.cell(0, 40, 1), -12);
         x.fort(0, 0, 0);
         x.set(5, 0, 0);
-        due("24 all were 0", x.tells(0, 0, 0), 39);
+        due("24 item 0", x.cell(0, 0, 1), 1);
+        due("24 all but two were 0", x.tells(0, 0, 0), 0);
+        due("24 item 0", x.cell(0, 0, 0), 1);
+        due("24 all but one were 0", x.tells(0, 0, 0), 39);
+        due("24 item 0", x.cell(0, 0, 1), 1);
         due("24 anew", x.sheet(0, 2, 40), 1);
         due("24 all are 0 anew", x.tells(0, 0, 0), NONE);
         due("24 empty", x.sheet(0, 1, 0), 1);
@@ -953,13 +1015,15 @@ public final class PromisesTest {
     private static void forts() {
         Sandcastles x = new Sandcastles();
         due("27 missing, none asked", x.forts(0, 0, 0, 0), -11);
-        row(x, 0, 1, 7, 4, 5, 6, 6, 0, 0, 3, 2, 1);
+        row(x, 0, 1, 7, 4, 5, 6, 6, 0, 0, 3, 2, 11);
         due("27 forts", x.forts(0, 1, 1, 3), 2);
         due("27 two", x.count(0), 2);
         due("27 kind", x.told(0, 6), 4);
         due("27 number", x.told(0, 2), 5);
         due("27 place", x.told(0, 3), 6);
         due("27 kind", x.told(1, 6), 3);
+        due("27 number", x.told(1, 2), 2);
+        due("27 place", x.told(1, 3), 11);
         due("27 none asked, any from", x.forts(0, 1, 99, 0), 0);
         due("27 what stood ahead came", x.forts(0, 1, 7, 2), -12);
         due("27 what stood ahead came", x.count(0), 3);
