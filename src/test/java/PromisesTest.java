@@ -365,7 +365,7 @@ public final class PromisesTest {
         fault("strikes - ( - ( not ( 1 ) ) )" + rest, 20);
         due("6 mixed", read(new Sandcastles(), "strikes - ( - ( not 1 ) )" + rest), 1);
         Sandcastles x = new Sandcastles();
-        for (int i = 0; i < 3; i++) {
+        for (int i = 0; i < 6; i++) {
             due("6 a fault leaves nothing open", read(x, "strikes ((((( 1 ?"), -116);
             due("6 a fault leaves no sum", read(x, "strikes 1+1+1+1+1+1+1+1+1+1+1+1+1+1+1+1+1+1+1+1+1+1+1+1+1+1 ?"), -160);
         }
