@@ -15,6 +15,8 @@ public final class Sandcastles {
     private static final int KINDS = 6, NUMBERS = 10, PLACES = 16, MOONS = 10, WAVES = 1000;
     private static final int REALMS = 2, HEIGHTS = 100, NEW_HEIGHT = 20;
     private static final int GAME_WAVES = 3, SEEDS = 20;
+    // Every VALUE lies between this and its negative: 8 forts are worth 99 each at most.
+    private static final int BEYOND = 1000;
     private static final int WALL = 1, HOLE = 2, TOWER = 3, TRENCH = 4, PAIL = 5;
     private static final int BYTES = 0, SHORTS = 1, SORTS = 3;
     private static final int HEIGHT_VIEW = 10;
@@ -327,7 +329,7 @@ public final class Sandcastles {
             return REFUSED;
         }
         think();
-        int value = match.most(n, Integer.MIN_VALUE, Integer.MAX_VALUE);
+        int value = match.most(n, -BEYOND, BEYOND);
         return what == 0 ? value : match.first;
     }
 

@@ -115,7 +115,7 @@ public final class LanguageTest {
             check(!m.find(), "the word " + word);
         }
         Matcher used = Pattern.compile("\\b(System|Math|Integer|Long|Arrays|List|ArrayList)\\.(\\w+)").matcher(text);
-        Set<String> allowed = Set.of("System.arraycopy", "Math.max", "Math.min", "Integer.bitCount", "Integer.MIN_VALUE", "Integer.MAX_VALUE");
+        Set<String> allowed = Set.of("System.arraycopy", "Math.max", "Math.min", "Integer.bitCount");
         while (used.find()) {
             check(allowed.contains(used.group()), "the library: " + used.group());
         }

@@ -1,12 +1,5 @@
 /** Every promise of the document: ordinary inputs, the edges that it names, and wrong inputs. */
-public final class PromisesTest {
-    private static final int LEAST = Integer.MIN_VALUE, MOST = Integer.MAX_VALUE;
-    private static final int BAD = -2, STATE = -3, FULL = -4, NONE = -1;
-    private static final int REFUSED = -100000;
-
-    private static int wrong;
-    private static int asked;
-
+public final class PromisesTest extends Asking {
     public static void main(String[] args) {
         constants();
         newObject();
@@ -44,52 +37,7 @@ public final class PromisesTest {
         forts();
         taken();
         strangeArguments();
-        System.out.println("PromisesTest: " + asked + " answers, " + wrong + " wrong");
-        if (wrong != 0) {
-            System.exit(1);
-        }
-    }
-
-    private static void due(String call, long got, long want) {
-        asked++;
-        if (got != want) {
-            wrong++;
-            System.out.println(call + " answered " + got + ", due is " + want);
-        }
-    }
-
-    private static int read(Sandcastles x, String text) {
-        for (int i = 0; i < text.length(); i++) {
-            x.feed(text.charAt(i));
-        }
-        return x.text();
-    }
-
-    private static String whole(String strikes, String raises, String worth) {
-        return "strikes " + strikes + " ; raises " + raises + " ; worth " + worth + " ;";
-    }
-
-    /** A new object whose RULE is of these three. */
-    private static Sandcastles by(String strikes, String raises, String worth) {
-        Sandcastles x = new Sandcastles();
-        due("text " + strikes, read(x, whole(strikes, raises, worth)), 1);
-        x.force(1);
-        return x;
-    }
-
-    private static void row(Sandcastles x, int sheet, int sort, int... numbers) {
-        x.sheet(sheet, sort, numbers.length);
-        for (int i = 0; i < numbers.length; i++) {
-            x.cell(sheet, i, numbers[i]);
-        }
-    }
-
-    /** A fort of realm and height, of kind 0 and number 0. */
-    private static int put(Sandcastles x, int place, int realm, int height) {
-        int f = x.fort(0, 0, place);
-        x.set(4, f, realm);
-        x.set(5, f, height);
-        return f;
+        end("PromisesTest");
     }
 
     private static void constants() {
@@ -365,7 +313,7 @@ public final class PromisesTest {
         fault("strikes - ( - ( not ( 1 ) ) )" + rest, 20);
         due("6 mixed", read(new Sandcastles(), "strikes - ( - ( not 1 ) )" + rest), 1);
         Sandcastles x = new Sandcastles();
-        for (int i = 0; i < 6; i++) {
+        for (int i = 0; i < 5; i++) {
             due("6 a fault leaves nothing open", read(x, "strikes ((((( 1 ?"), -116);
             due("6 a fault leaves no sum", read(x, "strikes 1+1+1+1+1+1+1+1+1+1+1+1+1+1+1+1+1+1+1+1+1+1+1+1+1+1 ?"), -160);
         }
