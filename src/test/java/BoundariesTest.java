@@ -56,6 +56,7 @@ public final class BoundariesTest extends Asking {
         imagesOfNoneAndEight();
         imageAnew();
         counts();
+        the512thCall();
         end("BoundariesTest");
     }
 
@@ -783,6 +784,10 @@ public final class BoundariesTest extends Asking {
         due("13 two do not", two.best(0, 1, 1), 1);
         two.set(5, 0, 0);
         due("13 it lies", two.best(0, 40, 0), 0);
+        Sandcastles far = by("20 - place", "0", "0");
+        put(far, 0, 0, 20);
+        due("13 none is farther than 15", far.best(0, 1, 0), 15);
+        due("13 none is farther than 15", far.best(0, 1, 1), 15);
         for (int f : new int[] {-1, -2, 1, 7, 8, LEAST, MOST}) {
             due("13 best " + f, two.best(f, 0, 0), BAD);
         }
@@ -880,6 +885,12 @@ public final class BoundariesTest extends Asking {
         put(shelter, 1, 0, 20);
         due("15 one that shelters one's own by as much: none", shelter.wish(0, 1, 0), NONE);
         due("15 as so", shelter.wish(0, 1, 1), 0);
+        Sandcastles own = by("20 - 20 * shelter", "0", "10 * (place = 1)");
+        put(own, 0, 0, 50);
+        put(own, 1, 1, 20);
+        put(own, 1, 1, 20);
+        due("15 one's own, that shelters both of the other's, is none", own.wish(0, 1, 0), 1);
+        due("15 so one of them stands", own.wish(0, 1, 1), -10);
     }
 
     private static void wishOfNone() {
@@ -963,6 +974,11 @@ public final class BoundariesTest extends Asking {
         x.set(5, 7, 8);
         x.set(5, 1, 0);
         due("16 the last fort", x.game(1, 1), 7);
+        Sandcastles harm = by("0", "5", "99 - height");
+        put(harm, 0, 0, 20);
+        put(harm, 0, 1, 20);
+        due("16 neither may raise the other's", harm.game(1, 0), 0);
+        due("16 nor would raise its own", harm.game(1, 1), NONE);
     }
 
     /** "first REALM 0, then REALM 1" */
@@ -1334,5 +1350,17 @@ public final class BoundariesTest extends Asking {
         for (int what = 0; what < 6; what++) {
             due("23 count " + what, x.count(what), full[what]);
         }
+    }
+
+    /** "An object is used for at most 512 calls": the last of them is as good as the first. */
+    private static void the512thCall() {
+        Sandcastles x = new Sandcastles();
+        x.fort(WALL, 0, 9);
+        for (int i = 0; i < 255; i++) {
+            // strikes 9 - 9: it loses nothing, and rises by 6 till it has 99
+            due("8 wave", x.wave(), 1);
+            due("9 spade", x.spade(0), Math.min(99, 26 + 6 * i));
+        }
+        due("23 the 512th call", x.count(2), 255);
     }
 }

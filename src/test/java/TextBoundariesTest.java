@@ -565,6 +565,14 @@ public final class TextBoundariesTest extends Asking {
             due("6 " + text, read(x, text) < -100 ? 1 : 0, 1);
             due("6 nothing stays open behind " + text, read(x, HEAD + "(((((1)))))" + REST) > 0 ? 1 : 0, 1);
         }
+        Sandcastles y = new Sandcastles();
+        for (int time = 0; time < 2; time++) {
+            due("6 a fault at the end of what fills the tape", read(y, HEAD + "1+".repeat(75) + "1 "), -260);
+        }
+        due("6 a text behind them", read(y, HEAD + "1+".repeat(66) + "1" + REST), 1);
+        y.force(1);
+        y.fort(0, 0, 0);
+        due("6 it means what it says", y.told(0, 7), 67);
     }
 
     private static Sandcastles byWaveLess500() {
